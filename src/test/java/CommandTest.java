@@ -7,6 +7,7 @@ public final class CommandTest {
         timeNotAboveClock();
         run();
         shift();
+        shiftOfAFullPlan();
         shiftInThePast();
         watchCommands();
         actionCommands();
@@ -119,6 +120,18 @@ public final class CommandTest {
         d.plan(1, 1, 1, 2, 191, 7, 65407, 9);
         d.ticks(1);
         d.plan(191, 7, 65407, 9);
+    }
+
+    private static void shiftOfAFullPlan() {
+        Desk d = new Desk();
+        for (int i = 1; i <= 6; i++) {
+            d.done(i, 3, 0, 2 * i, 7, 0);
+        }
+        d.done(7, 5, 3);
+        d.plan(5, 7, 7, 7, 9, 7, 11, 7, 13, 7, 15, 7);
+        d.refused(6, 8, 5, 251);
+        d.done(9, 5, 252);
+        d.plan(1, 7, 3, 7, 5, 7, 7, 7, 9, 7, 11, 7);
     }
 
     private static void shiftInThePast() {
