@@ -12,6 +12,7 @@ public final class TickTest {
         actionDropsItself();
         actionIsRefused();
         lists();
+        emptyAndRareLists();
         planThenWatchesThenLists();
         safeStillWatches();
         lastClock();
@@ -261,14 +262,19 @@ public final class TickTest {
             d.report(5, 13 + p, 0, d.x.parameter(p));
             d.noReport();
         }
-        d.done(5, 10, 0, 1, 0);
+    }
+
+    private static void emptyAndRareLists() {
+        Desk d = new Desk();
+        d.x.sense(0, 5);
+        d.done(1, 10, 0, 1, 0);
         d.empty();
         d.ticks(1);
-        d.report(5, 21, 0, 0);
-        d.done(6, 10, 0, 255, 0);
+        d.report(5, 1, 0, 0);
+        d.done(2, 10, 0, 255, 1);
         d.empty();
-        d.ticks(255 - 21);
-        d.report(5, 255, 0, 0);
+        d.ticks(254);
+        d.report(5, 255, 0, 5);
         d.noReport();
     }
 
