@@ -9,23 +9,36 @@ public final class BrokenTest {
     public static void main(String[] args) {
         unknownServices();
         argumentNumbers();
-        ranges();
-        watchRanges();
-        forbiddenInside();
+        setOfAParameterBelow8();
+        runBelow3();
+        watchBelow4();
+        watchOverAParameterBelow8();
+        watchHighNotBelowLow();
+        watchCountOf1To3();
+        watchEventBelow4();
+        unwatchBelow4();
+        actionBelow4();
+        dropBelow4();
+        houseBelow2();
+        modeBelow2();
+        argumentsOfAnyValue();
+        notInsideAnAt();
+        notInsideAnAction();
+        atLeastAServiceInside();
         brokenInside();
-        order();
+        numberBeforeRange();
+        rangeBeforeInside();
+        forbiddenInsideIsNotLookedInto();
+        brokenBeforeRefused();
         nothingChanges();
         Desk.finish();
     }
 
     private static int[] frame(int... command) {
-        int[] content = new int[command.length + 1];
-        content[0] = 77;
-        System.arraycopy(command, 0, content, 1, command.length);
-        return content;
+        return join(new int[] {77}, command);
     }
 
-    private static int[] inside(int[] outer, int... command) {
+    private static int[] join(int[] outer, int... command) {
         int[] all = new int[outer.length + command.length];
         System.arraycopy(outer, 0, all, 0, outer.length);
         System.arraycopy(command, 0, all, outer.length, command.length);
@@ -39,7 +52,7 @@ public final class BrokenTest {
             int service = command[0];
             boolean mayStand = outer.length == 0
                     || service != 3 && (service != 8 || outer[0] == 3 && outer.length == 3);
-            int[] content = frame(inside(outer, command));
+            int[] content = frame(join(outer, command));
             if (mayStand && content.length <= 12) {
                 new Desk().refused(code, content);
             }
@@ -49,10 +62,27 @@ public final class BrokenTest {
     private static void goodEverywhere(int... command) {
         new Desk().done(frame(command));
         if (command[0] != 3) {
-            new Desk().done(frame(inside(new int[] {3, 1, 0}, command)));
+            new Desk().done(frame(join(new int[] {3, 1, 0}, command)));
         }
         if (command[0] != 3 && command[0] != 8) {
-            new Desk().done(frame(inside(new int[] {8, 2}, command)));
+            new Desk().done(frame(join(new int[] {8, 2}, command)));
+        }
+    }
+
+    private static void goodOrBroken(boolean good, int... command) {
+        if (good) {
+            goodEverywhere(command);
+        } else {
+            brokenEverywhere(3, command);
+        }
+    }
+
+    /** Every byte in the place of the argument; good are those from least to most. */
+    private static void onlyFromTo(int least, int most, int place, int... command) {
+        for (int v = 0; v < 256; v++) {
+            int[] changed = command.clone();
+            changed[place] = v;
+            goodOrBroken(v >= least && v <= most, changed);
         }
     }
 
@@ -61,6 +91,7 @@ public final class BrokenTest {
             if (service < 1 || service > 11) {
                 brokenEverywhere(1, service);
                 brokenEverywhere(1, service, 1);
+                brokenEverywhere(1, service, 0, 0, 0, 0, 1, 0);
             }
         }
     }
@@ -79,97 +110,183 @@ public final class BrokenTest {
         }
     }
 
-    private static void ranges() {
-        int[] below = {0, 0, 8, 256, 3, 256, 4, 4, 4, 4, 2, 2};
-        for (int[] good : GOOD) {
-            for (int first = 0; good.length > 1 && first < 256; first++) {
-                int[] command = good.clone();
-                command[1] = first;
-                if (first >= below[good[0]]) {
-                    brokenEverywhere(3, command);
-                } else if (good[0] != 5) {
-                    goodEverywhere(command);
-                }
+    private static void setOfAParameterBelow8() {
+        onlyFromTo(0, 7, 1, 2, 0, 1);
+    }
+
+    private static void runBelow3() {
+        onlyFromTo(0, 2, 1, 4, 0);
+    }
+
+    private static void watchBelow4() {
+        onlyFromTo(0, 3, 1, 6, 0, 0, 0, 0, 1, 0);
+    }
+
+    private static void watchOverAParameterBelow8() {
+        onlyFromTo(0, 7, 2, 6, 0, 0, 0, 0, 1, 0);
+    }
+
+    private static void watchHighNotBelowLow() {
+        int[] bounds = {-128, -127, -1, 0, 1, 126, 127};
+        for (int low : bounds) {
+            for (int high : bounds) {
+                goodOrBroken(high >= low, 6, 0, 0, low & 255, high & 255, 1, 0);
             }
         }
-        goodEverywhere(2, 0, 128);
-        goodEverywhere(3, 0, 255, 1);
-        goodEverywhere(10, 0, 0, 0);
-    }
-
-    private static void watchRanges() {
         for (int v = 0; v < 256; v++) {
-            one(v < 8, 6, 0, v, 0, 0, 1, 0);
-            one(v >= 1 && v <= 3, 6, 0, 0, 0, 0, v, 0);
-            one(v < 4, 6, 0, 0, 0, 0, 1, v);
-            one((byte) v <= 5, 6, 0, 0, v, 5, 1, 0);
-            one((byte) v >= -5, 6, 0, 0, 251, v, 1, 0);
+            goodOrBroken((byte) v <= 5, 6, 0, 0, v, 5, 1, 0);
+            goodOrBroken((byte) v >= -5, 6, 0, 0, 251, v, 1, 0);
         }
     }
 
-    private static void one(boolean good, int... command) {
-        if (good) {
-            goodEverywhere(command);
-        } else {
-            brokenEverywhere(3, command);
-        }
+    private static void watchCountOf1To3() {
+        onlyFromTo(1, 3, 5, 6, 0, 0, 0, 0, 1, 0);
     }
 
-    private static void forbiddenInside() {
+    private static void watchEventBelow4() {
+        onlyFromTo(0, 3, 6, 6, 0, 0, 0, 0, 1, 0);
+    }
+
+    private static void unwatchBelow4() {
+        onlyFromTo(0, 3, 1, 7, 0);
+    }
+
+    private static void actionBelow4() {
+        onlyFromTo(0, 3, 1, 8, 0, 1);
+    }
+
+    private static void dropBelow4() {
+        onlyFromTo(0, 3, 1, 9, 0);
+    }
+
+    private static void houseBelow2() {
+        onlyFromTo(0, 1, 1, 10, 0, 1, 1);
+    }
+
+    private static void modeBelow2() {
+        onlyFromTo(0, 1, 1, 11, 0);
+    }
+
+    private static void argumentsOfAnyValue() {
+        onlyFromTo(0, 255, 2, 2, 0, 0);
+        onlyFromTo(0, 255, 1, 3, 0, 9, 1);
+        onlyFromTo(0, 255, 2, 3, 1, 1, 1);
+        onlyFromTo(0, 255, 1, 5, 0);
+        onlyFromTo(0, 255, 2, 10, 0, 0, 0);
+        onlyFromTo(0, 255, 3, 10, 0, 0, 0);
+    }
+
+    private static void notInsideAnAt() {
         new Desk().refused(3, 7, 3, 0, 9, 3, 0, 9, 1);
+        for (int[] good : GOOD) {
+            if (good[0] != 3) {
+                new Desk().done(join(new int[] {7, 3, 0, 9}, good));
+            }
+        }
+    }
+
+    private static void notInsideAnAction() {
         new Desk().refused(3, 7, 8, 0, 3, 0, 9, 1);
         new Desk().refused(3, 7, 8, 0, 8, 1, 1);
         new Desk().refused(3, 7, 3, 0, 9, 8, 0, 3, 0, 9, 1);
         new Desk().refused(3, 7, 3, 0, 9, 8, 0, 8, 0, 1);
+        for (int[] good : GOOD) {
+            if (good[0] != 3 && good[0] != 8) {
+                new Desk().done(join(new int[] {7, 8, 0}, good));
+            }
+        }
         new Desk().done(7, 3, 0, 9, 8, 0, 1);
         new Desk().done(7, 3, 0, 9, 8, 0, 10, 1, 2, 3);
+    }
+
+    private static void atLeastAServiceInside() {
+        new Desk().refused(2, 7, 3, 0, 9);
+        new Desk().done(7, 3, 0, 9, 1);
+        new Desk().refused(2, 7, 8, 0);
+        new Desk().done(7, 8, 0, 1);
+        new Desk().refused(2, 7, 3, 0, 9, 8, 0);
+        new Desk().done(7, 3, 0, 9, 8, 0, 1);
     }
 
     private static void brokenInside() {
         new Desk().refused(1, 7, 3, 0, 9, 12);
         new Desk().refused(2, 7, 3, 0, 9, 2, 1);
         new Desk().refused(3, 7, 3, 0, 9, 2, 8, 1);
-        new Desk().refused(2, 7, 3, 0, 9, 8, 0);
+        new Desk().refused(1, 7, 8, 0, 0);
+        new Desk().refused(2, 7, 8, 0, 2, 1);
+        new Desk().refused(3, 7, 8, 0, 2, 8, 1);
         new Desk().refused(3, 7, 3, 0, 9, 8, 4, 1);
         new Desk().refused(1, 7, 3, 0, 9, 8, 0, 0);
         new Desk().refused(2, 7, 3, 0, 9, 8, 0, 1, 1);
         new Desk().refused(3, 7, 3, 0, 9, 8, 0, 11, 2);
     }
 
-    private static void order() {
-        // Too few arguments come before their range, the outer range before what is inside.
-        new Desk().refused(2, 7, 2, 9);
+    private static void numberBeforeRange() {
+        new Desk().refused(2, 7, 2, 8);
+        new Desk().refused(2, 7, 2, 8, 0, 0);
+        new Desk().refused(2, 7, 4, 3, 0);
+        new Desk().refused(2, 7, 6, 4, 8, 1, 0, 0);
         new Desk().refused(2, 7, 8, 4);
+        new Desk().refused(2, 7, 11, 2, 2);
+        new Desk().refused(1, 7, 12, 8);
+    }
+
+    private static void rangeBeforeInside() {
         new Desk().refused(3, 7, 8, 4, 12);
         new Desk().refused(3, 7, 8, 4, 2, 1);
-        // A service that may not be inside is not looked into.
+        new Desk().refused(1, 7, 8, 3, 12);
+        new Desk().refused(2, 7, 8, 3, 2, 1);
+        new Desk().refused(3, 7, 3, 0, 9, 8, 4, 12);
+    }
+
+    private static void forbiddenInsideIsNotLookedInto() {
         new Desk().refused(3, 7, 3, 0, 9, 3);
         new Desk().refused(3, 7, 8, 0, 8, 0, 12);
+        new Desk().refused(3, 7, 8, 0, 8);
         new Desk().refused(3, 7, 8, 0, 3);
-        // A broken command is told before it is refused.
+        new Desk().refused(3, 7, 3, 0, 9, 8, 0, 3);
+    }
+
+    private static void brokenBeforeRefused() {
         Desk safe = new Desk();
         safe.done(1, 11, 1);
+        safe.refused(1, 7, 12);
         safe.refused(2, 7, 3, 0, 9);
+        safe.refused(3, 7, 4, 3);
         safe.refused(4, 7, 3, 0, 9, 1);
         Desk late = new Desk();
         late.refused(1, 7, 3, 0, 0, 12);
         late.refused(6, 7, 3, 0, 0, 1);
+        Desk full = new Desk();
+        for (int i = 0; i < 6; i++) {
+            full.done(i, 3, 0, 9, 1);
+        }
+        full.refused(3, 7, 3, 0, 9, 7, 4);
+        full.refused(5, 7, 3, 0, 9, 7, 3);
     }
 
     private static void nothingChanges() {
-        Desk d = new Desk();
-        d.refused(3, 1, 2, 8, 1);
-        d.refused(3, 2, 6, 0, 0, 5, 4, 1, 0);
-        d.refused(2, 3, 8, 1);
-        d.refused(1, 4, 8, 1, 12);
-        d.refused(1, 5, 3, 0, 5, 99);
-        d.refused(3, 6, 11, 2);
-        d.refused(3, 7, 4, 3);
-        d.refused(3, 8, 10, 2, 1, 1);
-        d.counts(0, 0, 0, 1, 0, 0, 0, 8, 0, 0, 0);
-        Desk.due("watch", d.x.watch(0), -1);
-        Desk.due("action", d.x.action(1), 0);
-        d.ticks(2);
-        d.noReport();
+        int[][] unknown = {
+            {0}, {12}, {255, 1}, {3, 0, 9, 0}, {3, 0, 9, 12, 1}, {8, 0, 12}, {8, 3, 255, 1, 1}, {3, 0, 9, 8, 0, 0},
+        };
+        int[][] wrongNumber = {
+            {1, 0}, {2, 0}, {2, 0, 1, 1}, {3}, {3, 0}, {3, 0, 9}, {4}, {4, 1, 1}, {5}, {5, 1, 1}, {6, 3, 0, 0, 0, 1},
+            {6, 0, 0, 0, 0, 1, 0, 0}, {7}, {7, 0, 0}, {8}, {8, 0}, {9}, {9, 0, 0}, {10, 0, 1}, {10, 0, 1, 1, 1}, {11},
+            {11, 1, 1}, {3, 0, 9, 1, 1}, {3, 0, 9, 2, 0}, {8, 0, 1, 1}, {8, 3, 2, 0}, {3, 0, 9, 8, 0, 2, 0},
+        };
+        int[][] outOfRange = {
+            {2, 8, 1}, {4, 3}, {6, 4, 0, 0, 0, 1, 0}, {6, 0, 8, 0, 0, 1, 0}, {6, 0, 0, 1, 0, 1, 0}, {6, 0, 0, 0, 0, 0, 0},
+            {6, 0, 0, 0, 0, 4, 0}, {6, 0, 0, 0, 0, 1, 4}, {7, 4}, {8, 4, 1}, {9, 4}, {10, 2, 1, 1}, {11, 2},
+            {3, 0, 9, 3, 0, 9, 1}, {8, 0, 3, 0, 9, 1}, {8, 0, 8, 0, 1}, {3, 0, 9, 8, 0, 8, 0, 1}, {3, 0, 9, 2, 8, 1},
+            {8, 0, 2, 8, 1}, {3, 0, 9, 8, 3, 11, 2}, {3, 0, 9, 8, 4, 1},
+        };
+        int[][][] byCode = {unknown, wrongNumber, outOfRange};
+        for (Scene scene : Scene.values()) {
+            for (int code = 1; code <= 3; code++) {
+                for (int[] command : byCode[code - 1]) {
+                    Twins.refused(scene, code, frame(command));
+                }
+            }
+        }
     }
 }

@@ -1,19 +1,15 @@
-/** Promise 2, its third part: what each command does, and when it is refused. */
+/** Promise 2, its third part: what each command does. */
 public final class CommandTest {
     public static void main(String[] args) {
         ping();
         set();
-        planFull();
-        timeNotAboveClock();
         run();
         shift();
-        shiftOfAFullPlan();
-        shiftInThePast();
         watchCommands();
         actionCommands();
         mode();
-        whenSafe();
-        orderOfRefusals();
+        nothingToDo();
+        signedArguments();
         Desk.finish();
     }
 
@@ -43,33 +39,6 @@ public final class CommandTest {
             d.report(1, 0, v, 2);
             d.noReport();
         }
-    }
-
-    private static void planFull() {
-        Desk d = new Desk();
-        for (int i = 0; i < 6; i++) {
-            d.done(i, 3, 0, 20 - i, 1);
-        }
-        d.refused(5, 6, 3, 0, 20, 1);
-        d.refused(5, 6, 3, 0, 0, 1);
-        d.plan(15, 1, 16, 1, 17, 1, 18, 1, 19, 1, 20, 1);
-        d.ticks(15);
-        d.done(7, 3, 0, 16, 2, 0, 1);
-        d.plan(16, 1, 16, 2, 17, 1, 18, 1, 19, 1, 20, 1);
-        d.refused(5, 6, 3, 0, 20, 1);
-    }
-
-    private static void timeNotAboveClock() {
-        Desk d = new Desk();
-        d.refused(6, 1, 3, 0, 0, 1);
-        d.done(1, 3, 0, 1, 1);
-        d.ticks(3);
-        d.refused(6, 2, 3, 0, 2, 1);
-        d.refused(6, 3, 3, 0, 3, 1);
-        d.done(4, 3, 0, 4, 1);
-        d.done(5, 3, 255, 255, 11, 0);
-        d.done(6, 3, 1, 2, 7, 0);
-        d.plan(4, 1, 258, 7, 65535, 11);
     }
 
     private static void run() {
@@ -122,30 +91,6 @@ public final class CommandTest {
         d.plan(191, 7, 65407, 9);
     }
 
-    private static void shiftOfAFullPlan() {
-        Desk d = new Desk();
-        for (int i = 1; i <= 6; i++) {
-            d.done(i, 3, 0, 2 * i, 7, 0);
-        }
-        d.done(7, 5, 3);
-        d.plan(5, 7, 7, 7, 9, 7, 11, 7, 13, 7, 15, 7);
-        d.refused(6, 8, 5, 251);
-        d.done(9, 5, 252);
-        d.plan(1, 7, 3, 7, 5, 7, 7, 7, 9, 7, 11, 7);
-    }
-
-    private static void shiftInThePast() {
-        Desk d = new Desk();
-        d.done(1, 4, 0);
-        d.done(2, 3, 0, 2, 1);
-        d.ticks(5);
-        d.refused(6, 3, 5, 0);
-        d.refused(6, 3, 5, 3);
-        d.plan(2, 1);
-        d.done(3, 5, 4);
-        d.plan(6, 1);
-    }
-
     private static void watchCommands() {
         Desk d = new Desk();
         d.done(1, 6, 2, 5, 250, 5, 3, 1);
@@ -196,37 +141,53 @@ public final class CommandTest {
         d.counts(9, 6);
     }
 
-    private static void whenSafe() {
+    /** Commands that find already what they would bring about are done all the same. */
+    private static void nothingToDo() {
         Desk d = new Desk();
-        d.done(1, 3, 0, 9, 1);
-        d.done(2, 8, 0, 1);
-        d.done(3, 6, 0, 0, 0, 0, 1, 0);
-        d.done(4, 11, 1);
-        d.refused(4, 5, 3, 0, 9, 1);
-        d.refused(4, 5, 4, 1);
-        d.refused(4, 5, 5, 1);
-        d.refused(4, 5, 6, 0, 0, 0, 0, 1, 0);
-        d.refused(4, 5, 8, 1, 1);
-        d.refused(4, 5, 9, 0);
-        d.refused(4, 5, 10, 0, 1, 1);
-        d.plan(9, 1);
-        Desk.due("action 0", d.x.action(0), 1);
-        Desk.due("action 1", d.x.action(1), 0);
-        d.done(6, 1);
-        d.done(7, 2, 1, 1);
-        d.done(8, 7, 0);
-        d.done(9, 11, 0);
-        d.done(10, 9, 0);
+        int[] before = d.state();
+        int[][] commands = {{4, 1}, {4, 2}, {5, 100}, {7, 3}, {9, 3}, {10, 1, 0, 255}, {11, 0}, {2, 7, 0}};
+        for (int[] command : commands) {
+            int[] content = new int[command.length + 1];
+            content[0] = command[0] + 100;
+            System.arraycopy(command, 0, content, 1, command.length);
+            d.done(content);
+            d.report(1, 0, content[0], command[0]);
+        }
+        before[6] += commands.length;
+        before[9] += commands.length;
+        d.stateIs("with nothing to do", before);
+        d.done(1, 4, 0);
+        d.done(2, 4, 0);
+        d.counts(2, 0);
     }
 
-    private static void orderOfRefusals() {
-        Desk d = new Desk();
-        for (int i = 0; i < 6; i++) {
-            d.done(i, 3, 0, 2, 1);
+    /** x stands for x below 128, and for x - 256 from there on. */
+    private static void signedArguments() {
+        int[][] bytesAndValues = {{0, 0}, {1, 1}, {126, 126}, {127, 127}, {128, -128}, {129, -127}, {254, -2}, {255, -1}};
+        for (int[] pair : bytesAndValues) {
+            Desk d = new Desk();
+            d.done(1, 2, 4, pair[0]);
+            Desk.due("SET " + pair[0], d.x.parameter(4), pair[1]);
+            d.done(2, 3, 1, 0, 1);
+            d.done(3, 5, pair[0]);
+            d.plan(256 + pair[1], 1);
+            signedBounds(pair[0], pair[1]);
         }
-        d.refused(5, 7, 3, 0, 0, 1);
-        d.done(8, 11, 1);
-        d.refused(4, 9, 3, 0, 0, 1);
-        d.refused(4, 9, 5, 128);
+    }
+
+    /** A watch whose low and high are this byte finds this one value in its range. */
+    private static void signedBounds(int bound, int value) {
+        for (int v = Math.max(value - 1, -128); v <= Math.min(value + 1, 127); v++) {
+            Desk d = new Desk();
+            d.done(1, 6, 0, 0, bound, bound, 1, 0);
+            d.x.sense(0, v);
+            d.ticks(1);
+            Desk.due("count of " + v + " in " + value + " .. " + value, d.x.watch(0), v == value ? 0 : 1);
+        }
+        Desk d = new Desk();
+        d.x.sense(0, -value - 1);
+        d.done(1, 6, 0, 0, bound, bound, 1, 0);
+        d.ticks(1);
+        Desk.due("count of the value turned", d.x.watch(0), 1);
     }
 }

@@ -12,6 +12,10 @@ public final class CountTest {
         for (int what : wrong) {
             Desk.due("count(" + what + ")", d.x.count(what), Desk.R);
         }
+        d.ticks(3);
+        d.done(1, 7, 0);
+        Desk.due("the first count", d.x.count(0), 3);
+        Desk.due("the last count", d.x.count(9), 1);
     }
 
     private static void allCounts() {

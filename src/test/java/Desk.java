@@ -4,6 +4,7 @@ import java.util.List;
 /** What the tests share: a FlightDesk, frames sent to it, and answers compared with those that are due. */
 final class Desk {
     static final int R = FlightDesk.REFUSED;
+    static final String[] STATE = new String[40];
     private static int wrong = 0;
 
     final FlightDesk x = new FlightDesk();
@@ -30,13 +31,18 @@ final class Desk {
         return c;
     }
 
-    /** Sends a whole frame with a right check; every byte before the check must be part of it. */
-    int send(int... content) {
+    /** Sends a frame but for its check; every byte must be part of it. */
+    void start(int... content) {
         due("start of " + name(content), x.uplink(235), 0);
         due("length of " + name(content), x.uplink(content.length), 0);
         for (int b : content) {
             due("content of " + name(content), x.uplink(b), 0);
         }
+    }
+
+    /** Sends a whole frame with a right check. */
+    int send(int... content) {
+        start(content);
         return x.uplink(check(content));
     }
 
@@ -100,7 +106,39 @@ final class Desk {
         }
     }
 
-    private static String name(int... content) {
+    /** What the calls answer that change nothing, but for the oldest report; STATE names the answers. */
+    int[] state() {
+        int[] answers = new int[STATE.length];
+        for (int n = 0; n < 10; n++) {
+            note(answers, n, "count", n, x.count(n));
+        }
+        for (int n = 0; n < 8; n++) {
+            note(answers, 10 + n, "parameter", n, x.parameter(n));
+        }
+        for (int n = 0; n < 4; n++) {
+            note(answers, 18 + n, "watch", n, x.watch(n));
+            note(answers, 22 + n, "action", n, x.action(n));
+        }
+        for (int n = 0; n < 7; n++) {
+            note(answers, 26 + n, "planned", n, x.planned(n));
+            note(answers, 33 + n, "plannedService", n, x.plannedService(n));
+        }
+        return answers;
+    }
+
+    void stateIs(String when, int[] want) {
+        int[] got = state();
+        for (int i = 0; i < want.length; i++) {
+            due(when + ", " + STATE[i], got[i], want[i]);
+        }
+    }
+
+    private static void note(int[] answers, int place, String call, int n, int answer) {
+        answers[place] = answer;
+        STATE[place] = call + "(" + n + ")";
+    }
+
+    static String name(int... content) {
         List<Integer> numbers = new ArrayList<>();
         for (int b : content) {
             numbers.add(b);

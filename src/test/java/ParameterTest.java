@@ -4,6 +4,7 @@ public final class ParameterTest {
 
     public static void main(String[] args) {
         everyValue();
+        firstAndLast();
         wrongNumbers();
         wrongValues();
         Desk.finish();
@@ -28,6 +29,18 @@ public final class ParameterTest {
         each.counts(9, 0);
         each.done(1, 2, 3, 200);
         Desk.due("sense after SET", each.x.sense(3, 1), -56);
+    }
+
+    private static void firstAndLast() {
+        for (int p = 0; p < 8; p++) {
+            Desk d = new Desk();
+            Desk.due("sense(" + p + ", -128)", d.x.sense(p, -128), 0);
+            Desk.due("sense(" + p + ", 127)", d.x.sense(p, 127), -128);
+            Desk.due("sense(" + p + ", 0)", d.x.sense(p, 0), 127);
+            Desk.due("sense(" + p + ", -129)", d.x.sense(p, -129), Desk.R);
+            Desk.due("sense(" + p + ", 128)", d.x.sense(p, 128), Desk.R);
+            Desk.due("parameter(" + p + ")", d.x.parameter(p), 0);
+        }
     }
 
     private static void wrongNumbers() {

@@ -4,6 +4,7 @@ public final class PlanTest {
         byRisingTimes();
         equalTimes();
         wrongIndexes();
+        everySize();
         everyService();
         takenOutFromTheFront();
         Desk.finish();
@@ -48,6 +49,27 @@ public final class PlanTest {
         d.plan(9, 1, 9, 1, 9, 1, 9, 1, 9, 1, 9, 1);
         d.done(7, 4, 2);
         d.plan();
+    }
+
+    private static void everySize() {
+        Desk d = new Desk();
+        for (int size = 0; size <= 6; size++) {
+            for (int k = -1; k <= 7; k++) {
+                boolean there = k >= 0 && k < size;
+                Desk.due("planned(" + k + ") of " + size, d.x.planned(k), there ? 10 + k : Desk.R);
+                Desk.due("plannedService(" + k + ") of " + size, d.x.plannedService(k), there ? 7 : Desk.R);
+            }
+            if (size < 6) {
+                d.done(size, 3, 0, 10 + size, 7, 0);
+            }
+        }
+        d.ticks(10);
+        for (int size = 5; size >= 0; size--) {
+            Desk.due("planned behind the last of " + size, d.x.planned(size), Desk.R);
+            Desk.due("plannedService behind the last of " + size, d.x.plannedService(size), Desk.R);
+            Desk.due("the last of " + size, d.x.planned(size - 1), size == 0 ? Desk.R : 15);
+            d.ticks(1);
+        }
     }
 
     private static void everyService() {

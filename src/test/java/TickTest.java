@@ -6,16 +6,12 @@ public final class TickTest {
         planTurnsSafe();
         planShiftsTheRest();
         plannedActionStays();
-        watches();
-        everyBound();
         actionTurnsWatches();
         actionDropsItself();
         actionIsRefused();
         lists();
-        emptyAndRareLists();
         planThenWatchesThenLists();
         safeStillWatches();
-        lastClock();
         Desk.finish();
     }
 
@@ -111,43 +107,6 @@ public final class TickTest {
         d.report(1, 3, 256, 2);
         d.report(5, 3, 1, 50);
         d.noReport();
-    }
-
-    private static void watches() {
-        for (int n = 1; n <= 3; n++) {
-            Desk d = new Desk();
-            d.done(1, 6, 3, 4, 246, 10, n, 2);
-            d.empty();
-            d.x.sense(4, 11);
-            for (int i = 1; i <= 5; i++) {
-                d.ticks(1);
-                Desk.due("count", d.x.watch(3), Math.min(i, n));
-                if (i == n) {
-                    d.report(4, i, 2, 11);
-                }
-                d.noReport();
-            }
-            d.x.sense(4, -10);
-            d.ticks(1);
-            Desk.due("count", d.x.watch(3), 0);
-            d.x.sense(4, -11);
-            d.ticks(n);
-            d.report(4, 6 + n, 2, -11);
-            d.noReport();
-        }
-    }
-
-    private static void everyBound() {
-        for (int v = -128; v <= 127; v++) {
-            Desk d = new Desk();
-            d.done(1, 6, 0, 0, 236, 30, 1, 0);
-            d.empty();
-            d.x.sense(0, v);
-            d.ticks(1);
-            boolean out = v < -20 || v > 30;
-            Desk.due("count of " + v, d.x.watch(0), out ? 1 : 0);
-            Desk.due("reports of " + v, d.x.count(4), out ? 1 : 0);
-        }
     }
 
     private static void actionTurnsWatches() {
@@ -264,20 +223,6 @@ public final class TickTest {
         }
     }
 
-    private static void emptyAndRareLists() {
-        Desk d = new Desk();
-        d.x.sense(0, 5);
-        d.done(1, 10, 0, 1, 0);
-        d.empty();
-        d.ticks(1);
-        d.report(5, 1, 0, 0);
-        d.done(2, 10, 0, 255, 1);
-        d.empty();
-        d.ticks(254);
-        d.report(5, 255, 0, 5);
-        d.noReport();
-    }
-
     private static void planThenWatchesThenLists() {
         Desk d = new Desk();
         d.done(1, 3, 0, 1, 2, 0, 9);
@@ -309,14 +254,5 @@ public final class TickTest {
         d.report(5, 1, 0, 0);
         d.noReport();
         d.plan(1, 2);
-    }
-
-    /** Far past the calls that the document answers for, but a tick beyond 60000 is refused all the same. */
-    private static void lastClock() {
-        Desk d = new Desk();
-        d.ticks(60000);
-        Desk.due("tick at 60000", d.x.tick(), Desk.R);
-        d.counts(0, 60000);
-        d.noReport();
     }
 }

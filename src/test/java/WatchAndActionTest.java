@@ -16,6 +16,16 @@ public final class WatchAndActionTest {
             Desk.due("watch(" + n + ")", d.x.watch(n), Desk.R);
             Desk.due("action(" + n + ")", d.x.action(n), Desk.R);
         }
+        d.done(1, 6, 0, 0, 0, 0, 1, 0);
+        d.done(2, 6, 3, 0, 0, 0, 1, 0);
+        d.done(3, 8, 0, 1);
+        d.done(4, 8, 3, 7, 0);
+        int[] watches = {Desk.R, 0, -1, -1, 0, Desk.R};
+        int[] actions = {Desk.R, 1, 0, 0, 7, Desk.R};
+        for (int n = -1; n <= 4; n++) {
+            Desk.due("watch(" + n + ")", d.x.watch(n), watches[n + 1]);
+            Desk.due("action(" + n + ")", d.x.action(n), actions[n + 1]);
+        }
     }
 
     private static void watchesApart() {
