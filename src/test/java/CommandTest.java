@@ -163,7 +163,9 @@ public final class CommandTest {
 
     /** x stands for x below 128, and for x - 256 from there on. */
     private static void signedArguments() {
-        int[][] bytesAndValues = {{0, 0}, {1, 1}, {126, 126}, {127, 127}, {128, -128}, {129, -127}, {254, -2}, {255, -1}};
+        int[][] bytesAndValues = {
+            {0, 0}, {1, 1}, {126, 126}, {127, 127}, {128, -128}, {129, -127}, {254, -2}, {255, -1},
+        };
         for (int[] pair : bytesAndValues) {
             Desk d = new Desk();
             d.done(1, 2, 4, pair[0]);
