@@ -5,8 +5,13 @@ import java.lang.reflect.Modifier;
 import java.util.Map;
 import java.util.TreeMap;
 
-/** The public face of the document, and rule 1 of LANGUAGE.md: nothing else can be seen from outside. */
+/** The public face of the document, and rules 1 and 5 of LANGUAGE.md: what is seen from outside, what is static. */
 public final class FaceTest {
+    private static final Map<String, Integer> FACE = Map.ofEntries(Map.entry("uplink", 1), Map.entry("tick", 0),
+            Map.entry("report", 1), Map.entry("take", 0), Map.entry("parameter", 1), Map.entry("sense", 2),
+            Map.entry("planned", 1), Map.entry("plannedService", 1), Map.entry("watch", 1), Map.entry("action", 1),
+            Map.entry("count", 1));
+
     public static void main(String[] args) {
         Class<?> c = FlightDesk.class;
         Desk.due("public and final", c.getModifiers(), Modifier.PUBLIC | Modifier.FINAL);
@@ -17,7 +22,12 @@ public final class FaceTest {
         }
         fields(c);
         methods(c);
+        staticsAreFinal(c);
         for (Class<?> inside : c.getDeclaredClasses()) {
+            staticsAreFinal(inside);
+            for (Method m : inside.getDeclaredMethods()) {
+                Desk.due(m + " bears a public name", FACE.containsKey(m.getName()) ? 1 : 0, 0);
+            }
             int open = inside.getModifiers() & (Modifier.PUBLIC | Modifier.PROTECTED);
             Desk.due(inside + " is hidden", open, 0);
             Desk.due(inside + " is static", inside.getModifiers() & Modifier.STATIC, Modifier.STATIC);
@@ -36,13 +46,12 @@ public final class FaceTest {
     }
 
     private static void methods(Class<?> c) {
-        Map<String, Integer> face = new TreeMap<>(Map.of("uplink", 1, "tick", 0, "report", 1, "take", 0,
-                "parameter", 1, "planned", 1, "plannedService", 1, "watch", 1, "action", 1, "count", 1));
-        face.put("sense", 2);
+        Map<String, Integer> missing = new TreeMap<>(FACE);
         for (Method m : c.getDeclaredMethods()) {
-            Integer parameters = face.remove(m.getName());
+            Integer parameters = missing.remove(m.getName());
             if (parameters == null) {
                 Desk.due(m + " is private", m.getModifiers() & Modifier.PRIVATE, Modifier.PRIVATE);
+                Desk.due(m + " bears a public name", FACE.containsKey(m.getName()) ? 1 : 0, 0);
                 continue;
             }
             Desk.due(m + " is public", m.getModifiers(), Modifier.PUBLIC);
@@ -52,6 +61,14 @@ public final class FaceTest {
                 Desk.due(m + " takes int", type == int.class ? 1 : 0, 1);
             }
         }
-        Desk.due("methods missing " + face.keySet(), face.size(), 0);
+        Desk.due("methods missing " + missing.keySet(), missing.size(), 0);
+    }
+
+    /** Rule 5: a state that objects share would let one run change the answers of another. */
+    private static void staticsAreFinal(Class<?> c) {
+        for (Field f : c.getDeclaredFields()) {
+            int both = Modifier.STATIC | Modifier.FINAL;
+            Desk.due(f + " is static and not final", (f.getModifiers() & both) == Modifier.STATIC ? 1 : 0, 0);
+        }
     }
 }
