@@ -5,7 +5,7 @@ import java.lang.reflect.Modifier;
 import java.util.Map;
 import java.util.TreeMap;
 
-/** The public face of the document, and rules 1 and 5 of LANGUAGE.md: what is seen from outside, what is static. */
+/** The public face of the document; of LANGUAGE.md rule 1, and of rule 5 that static fields are final. */
 public final class FaceTest {
     private static final Map<String, Integer> FACE = Map.ofEntries(Map.entry("uplink", 1), Map.entry("tick", 0),
             Map.entry("report", 1), Map.entry("take", 0), Map.entry("parameter", 1), Map.entry("sense", 2),
@@ -64,7 +64,7 @@ public final class FaceTest {
         Desk.due("methods missing " + missing.keySet(), missing.size(), 0);
     }
 
-    /** Rule 5: a state that objects share would let one run change the answers of another. */
+    /** A state that objects share would let one run change the answers of another. */
     private static void staticsAreFinal(Class<?> c) {
         for (Field f : c.getDeclaredFields()) {
             int both = Modifier.STATIC | Modifier.FINAL;
